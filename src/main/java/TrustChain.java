@@ -426,6 +426,7 @@ public final class TrustChain {
         int pathLength = NONE;
         int usage = NONE;
         int extensions = 0;
+        boolean selfIssued = false;
         boolean trusted = false;
         int number = 0;
         int issuers = 0;
@@ -437,10 +438,6 @@ public final class TrustChain {
             modulus = nothing;
             ownKey = nothing;
             issuerKey = nothing;
-        }
-
-        boolean isSelfIssued() {
-            return subject.same(issuer);
         }
 
         /** A key name is never empty where there is one, so an empty one stands for none. */
@@ -597,7 +594,7 @@ public final class TrustChain {
         }
 
         /** Leaves an element whose elements were read: nothing may be left in it. */
-        void close(int end) {
+        void finish(int end) {
             if (wrongAt < 0 && place < end) {
                 wrongAt = place;
             }
@@ -616,12 +613,12 @@ public final class TrustChain {
         }
 
         Slice number(int tag, int end) {
-            int close = open(tag, end);
+            int ends = open(tag, end);
             int from = place;
             boolean sign = octet(from + 1) >= 128;
-            boolean longer = close - from > 1 && (octet(from) == 0 && !sign || octet(from) == 255 && sign);
-            leave(close, close > from && !longer);
-            return new Slice(text, from, close);
+            boolean longer = ends - from > 1 && (octet(from) == 0 && !sign || octet(from) == 255 && sign);
+            leave(ends, ends > from && !longer);
+            return new Slice(text, from, ends);
         }
 
         Slice serial(int end) {
@@ -632,45 +629,45 @@ public final class TrustChain {
         }
 
         void flag(int end) {
-            int close = open(BOOLEAN, end);
-            leave(close, close - place == 1 && octet(place) == 255);
+            int ends = open(BOOLEAN, end);
+            leave(ends, ends - place == 1 && octet(place) == 255);
         }
 
         /** Goes into a BIT STRING all of whose bits are used, behind its first octet. */
         int openBits(int end) {
-            int close = open(BITS, end);
-            leave(place + 1, place < close && octet(place) == 0);
-            return close;
+            int ends = open(BITS, end);
+            leave(place + 1, place < ends && octet(place) == 0);
+            return ends;
         }
 
         /** The octets of a plain element, so many at least. */
         Slice plain(int tag, int least, int end) {
-            int close = open(tag, end);
+            int ends = open(tag, end);
             int from = place;
-            leave(close, close - from >= least);
-            return new Slice(text, from, close);
+            leave(ends, ends - from >= least);
+            return new Slice(text, from, ends);
         }
 
         void algorithm(int last, int end) {
-            int close = open(SEQ, end);
-            int idEnd = open(OID, close);
+            int ends = open(SEQ, end);
+            int idEnd = open(OID, ends);
             boolean same = idEnd - place == PKCS1.length + 1 && octet(idEnd - 1) == last;
             for (int i = 0; i < PKCS1.length; i++) {
                 same = same && octet(place + i) == PKCS1[i];
             }
             leave(idEnd, same);
-            int nullEnd = open(NULL, close);
+            int nullEnd = open(NULL, ends);
             leave(nullEnd, nullEnd == place);
-            close(close);
+            finish(ends);
         }
 
         /** What is in a NAME; how many PARTS it has is kept. */
         Slice name(int end) {
-            int close = open(SEQ, end);
+            int ends = open(SEQ, end);
             int from = place;
             parts = 0;
-            for (int n = 0; n < LONGEST_TEXT && more(close); n++) {
-                int setEnd = open(SET, close);
+            for (int n = 0; n < LONGEST_TEXT && more(ends); n++) {
+                int setEnd = open(SET, ends);
                 int pairEnd = open(SEQ, setEnd);
                 int idEnd = open(OID, pairEnd);
                 leave(idEnd, isOid(place, idEnd));
@@ -678,11 +675,11 @@ public final class TrustChain {
                 int stringEnd = open(tag, pairEnd);
                 boolean stands = tag == UTF8 ? isUtf8(place, stringEnd) : isSimple(tag, place, stringEnd);
                 leave(stringEnd, stringEnd > place && stands);
-                close(pairEnd);
-                close(setEnd);
+                finish(pairEnd);
+                finish(setEnd);
                 parts++;
             }
-            return new Slice(text, from, close);
+            return new Slice(text, from, ends);
         }
 
         Slice fullName(int end) {
@@ -696,11 +693,11 @@ public final class TrustChain {
 
         /** SEQ { EXTENSIONS, one at least }. */
         void readExtensions(int end) {
-            int close = open(SEQ, end);
+            int ends = open(SEQ, end);
             kinds.clear();
-            for (int n = 0; n < LONGEST_TEXT && (n == 0 || more(close)); n++) {
+            for (int n = 0; n < LONGEST_TEXT && (n == 0 || more(ends)); n++) {
                 int at = place;
-                int one = open(SEQ, close);
+                int one = open(SEQ, ends);
                 int idEnd = open(OID, one);
                 Slice kind = new Slice(text, place, idEnd);
                 leave(idEnd, isOid(place, idEnd));
@@ -710,31 +707,31 @@ public final class TrustChain {
                 }
                 int inEnd = open(OCTETS, one);
                 if (readKnown(kindNumber(kind), inEnd)) {
-                    close(inEnd);
+                    finish(inEnd);
                 } else {
                     leave(inEnd, true);
                     matters += critical ? 1 : 0;
                 }
-                close(one);
+                finish(one);
                 if (isRepeated(kind)) {
                     refuse(at);
                 }
                 kinds.add(kind);
                 extensions++;
             }
-            close(close);
+            finish(ends);
         }
 
         Slice issuerKey(int end) {
-            int close = open(SEQ, end);
-            Slice read = plain(0x80, 1, close);
-            close(close);
+            int ends = open(SEQ, end);
+            Slice read = plain(0x80, 1, ends);
+            finish(ends);
             return read;
         }
 
         long time(int end) {
             boolean isLong = nextIs(GENERALIZED, end);
-            int close = open(isLong ? GENERALIZED : UTC, end);
+            int ends = open(isLong ? GENERALIZED : UTC, end);
             int behindYear = place + (isLong ? 4 : 2);
             int year = isLong ? digits(place) * 100 + digits(place + 2) : digits(place);
             if (!isLong) {
@@ -745,9 +742,9 @@ public final class TrustChain {
             int hour = digits(behindYear + 4);
             int minute = digits(behindYear + 6);
             int second = digits(behindYear + 8);
-            boolean whole = close == behindYear + 11 && areDigits(place, close - 1) && octet(close - 1) == 'Z';
+            boolean whole = ends == behindYear + 11 && areDigits(place, ends - 1) && octet(ends - 1) == 'Z';
             boolean inDay = hour < 24 && minute < 60 && second < 60;
-            leave(close, whole && inDay && isDay(year, month, day) && (!isLong || year >= 2050));
+            leave(ends, whole && inDay && isDay(year, month, day) && (!isLong || year >= 2050));
             return ((daysTo(year, month, day) * 24 + hour) * 60 + minute) * 60 + second;
         }
 
@@ -872,55 +869,56 @@ public final class TrustChain {
         }
 
         void readCertificate() {
-            int close = open(SEQ, text.length);
+            int ends = open(SEQ, text.length);
             int from = place;
-            int bodyEnd = open(SEQ, close);
+            int bodyEnd = open(SEQ, ends);
             readHead(bodyEnd);
             readKey(bodyEnd);
             if (nextIs(A3, bodyEnd)) {
                 int around = open(A3, bodyEnd);
                 readExtensions(around);
-                close(around);
+                finish(around);
             }
-            close(bodyEnd);
+            finish(bodyEnd);
             result.body = new Slice(text, from, bodyEnd);
             result.extensions = extensions;
             result.matters = matters;
-            algorithm(SHA_WITH_RSA, close);
-            int bitsEnd = openBits(close);
+            algorithm(SHA_WITH_RSA, ends);
+            int bitsEnd = openBits(ends);
             result.signature = new Slice(text, place, bitsEnd);
             leave(bitsEnd, true);
-            close(close);
-            close(text.length);
+            finish(ends);
+            finish(text.length);
         }
 
         private void readHead(int end) {
             int versionEnd = open(A0, end);
             require(number(INTEGER, versionEnd).number() == 2);
-            close(versionEnd);
+            finish(versionEnd);
             result.serial = serial(end);
             algorithm(SHA_WITH_RSA, end);
             result.issuer = fullName(end);
             int timesEnd = open(SEQ, end);
             result.first = time(timesEnd);
             result.last = time(timesEnd);
-            close(timesEnd);
+            finish(timesEnd);
             result.subject = name(end);
             result.subjectParts = parts;
+            result.selfIssued = result.subject.same(result.issuer);
         }
 
         private void readKey(int end) {
-            int close = open(SEQ, end);
-            algorithm(RSA, close);
-            int bitsEnd = openBits(close);
+            int ends = open(SEQ, end);
+            algorithm(RSA, ends);
+            int bitsEnd = openBits(ends);
             int keyEnd = open(SEQ, bitsEnd);
             readModulus(keyEnd);
             long exponent = number(INTEGER, keyEnd).number();
             require(exponent >= 3 && exponent <= Integer.MAX_VALUE && (exponent & 1) == 1);
             result.exponent = (int) exponent;
-            close(keyEnd);
-            close(bitsEnd);
-            close(close);
+            finish(keyEnd);
+            finish(bitsEnd);
+            finish(ends);
         }
 
         private void readModulus(int end) {
@@ -955,7 +953,15 @@ public final class TrustChain {
                     readBasic(end);
                     return true;
                 case 30:
-                    readConstraints(end);
+                    int ends = open(SEQ, end);
+                    boolean permits = nextIs(A0, ends);
+                    if (permits) {
+                        readTrees(A0, result.permitted, ends);
+                    }
+                    if (!permits || more(ends)) {
+                        readTrees(A1, result.excluded, ends);
+                    }
+                    finish(ends);
                     return true;
                 case 35:
                     result.issuerKey = issuerKey(end);
@@ -966,81 +972,68 @@ public final class TrustChain {
         }
 
         private void readBasic(int end) {
-            int close = open(SEQ, end);
-            if (nextIs(BOOLEAN, close)) {
-                flag(close);
+            int ends = open(SEQ, end);
+            if (nextIs(BOOLEAN, ends)) {
+                flag(ends);
                 result.ca = true;
             }
-            if (nextIs(INTEGER, close)) {
-                long length = number(INTEGER, close).number();
+            if (nextIs(INTEGER, ends)) {
+                long length = number(INTEGER, ends).number();
                 require(result.ca && length >= 0 && length <= 255);
                 result.pathLength = (int) length;
             }
-            close(close);
+            finish(ends);
         }
 
         private void readUsage(int end) {
-            int close = open(BITS, end);
-            int size = close - place - 1;
+            int ends = open(BITS, end);
+            int size = ends - place - 1;
             int unused = octet(place);
-            int last = octet(close - 1);
+            int last = octet(ends - 1);
             boolean stands = (size == 1 || size == 2) && unused >= 0 && unused <= 7;
-            leave(close, stands && (last & (2 << unused) - 1) == 1 << unused);
+            leave(ends, stands && (last & (2 << unused) - 1) == 1 << unused);
             int usage = 0;
             for (int bit = 0; bit < size * 8 && bit < 16; bit++) {
-                int octet = octet(close - size + bit / 8);
+                int octet = octet(ends - size + bit / 8);
                 usage |= (octet >> (7 - bit % 8) & 1) << bit;
             }
             result.usage = usage;
         }
 
         private void readNames(int end) {
-            int close = open(SEQ, end);
-            for (int n = 0; n < LONGEST_TEXT && (n == 0 || more(close)); n++) {
-                if (nextIs(DIRECTORY, close)) {
-                    int around = open(DIRECTORY, close);
+            int ends = open(SEQ, end);
+            for (int n = 0; n < LONGEST_TEXT && (n == 0 || more(ends)); n++) {
+                if (nextIs(DIRECTORY, ends)) {
+                    int around = open(DIRECTORY, ends);
                     result.names.directories.add(name(around));
-                    close(around);
-                } else if (nextIs(ADDRESS, close)) {
-                    int size = plain(ADDRESS, 1, close).length();
+                    finish(around);
+                } else if (nextIs(ADDRESS, ends)) {
+                    int size = plain(ADDRESS, 1, ends).length();
                     require(size == 4 || size == 16);
-                } else if (nextIs(MAIL, close)) {
-                    require(isVisible(plain(MAIL, 1, close)));
+                } else if (nextIs(MAIL, ends)) {
+                    require(isVisible(plain(MAIL, 1, ends)));
                 } else {
-                    Slice read = plain(DNS, 1, close);
+                    Slice read = plain(DNS, 1, ends);
                     require(isVisible(read));
                     result.names.dns.add(read);
                 }
             }
         }
 
-        private void readConstraints(int end) {
-            int close = open(SEQ, end);
-            if (nextIs(A0, close)) {
-                readTrees(A0, result.permitted, close);
-                if (more(close)) {
-                    readTrees(A1, result.excluded, close);
-                }
-            } else {
-                readTrees(A1, result.excluded, close);
-            }
-            close(close);
-        }
-
         private void readTrees(int tag, NameSet into, int end) {
-            int close = open(tag, end);
-            for (int n = 0; n < LONGEST_TEXT && (n == 0 || more(close)); n++) {
-                int one = open(SEQ, close);
+            int ends = open(tag, end);
+            for (int n = 0; n < LONGEST_TEXT && (n == 0 || more(ends)); n++) {
+                int one = open(SEQ, ends);
                 if (nextIs(DIRECTORY, one)) {
                     int around = open(DIRECTORY, one);
                     into.directories.add(name(around));
-                    close(around);
+                    finish(around);
                 } else {
                     Slice read = plain(DNS, 0, one);
                     require(isVisible(read));
                     into.dns.add(read);
                 }
-                close(one);
+                finish(one);
             }
         }
 
@@ -1067,27 +1060,36 @@ public final class TrustChain {
         }
 
         void readList() {
-            int close = open(SEQ, text.length);
+            int ends = open(SEQ, text.length);
             int from = place;
-            int bodyEnd = open(SEQ, close);
+            int bodyEnd = open(SEQ, ends);
             readHead(bodyEnd);
-            if (nextIs(SEQ, bodyEnd)) {
-                readEntries(bodyEnd);
+            inEntry = nextIs(SEQ, bodyEnd);
+            int entriesEnd = inEntry ? open(SEQ, bodyEnd) : place;
+            for (int n = 0; n < LONGEST_TEXT && inEntry; n++) {
+                int one = open(SEQ, entriesEnd);
+                result.entries.add(serial(one));
+                time(one);
+                if (nextIs(SEQ, one)) {
+                    readExtensions(one);
+                }
+                finish(one);
+                inEntry = more(entriesEnd);
             }
             if (nextIs(A0, bodyEnd)) {
                 int around = open(A0, bodyEnd);
                 readExtensions(around);
-                close(around);
+                finish(around);
             }
-            close(bodyEnd);
+            finish(bodyEnd);
             result.body = new Slice(text, from, bodyEnd);
             result.matters = matters;
-            algorithm(SHA_WITH_RSA, close);
-            int bitsEnd = openBits(close);
+            algorithm(SHA_WITH_RSA, ends);
+            int bitsEnd = openBits(ends);
             result.signature = new Slice(text, place, bitsEnd);
             leave(bitsEnd, true);
-            close(close);
-            close(text.length);
+            finish(ends);
+            finish(text.length);
         }
 
         private void readHead(int end) {
@@ -1096,21 +1098,6 @@ public final class TrustChain {
             result.issuer = fullName(end);
             result.first = time(end);
             result.last = time(end);
-        }
-
-        private void readEntries(int end) {
-            int close = open(SEQ, end);
-            inEntry = true;
-            for (int n = 0; n < LONGEST_TEXT && (n == 0 || more(close)); n++) {
-                int one = open(SEQ, close);
-                result.entries.add(serial(one));
-                time(one);
-                if (nextIs(SEQ, one)) {
-                    readExtensions(one);
-                }
-                close(one);
-            }
-            inEntry = false;
         }
 
         @Override
@@ -1527,7 +1514,7 @@ public final class TrustChain {
             if (knownWanted && !isKnown) {
                 return NOT_KNOWN;
             }
-            if ((i == 0 || !one.isSelfIssued()) && !isNameAllowed(path, i)) {
+            if ((i == 0 || !one.selfIssued) && !isNameAllowed(path, i)) {
                 return FORBIDDEN_NAME;
             }
             if (one.matters > 0) {
@@ -1590,7 +1577,7 @@ public final class TrustChain {
                 if (j > i && above.pathLength >= 0 && above.pathLength < between) {
                     return true;
                 }
-                between += above.isSelfIssued() ? 0 : 1;
+                between += above.selfIssued ? 0 : 1;
             }
             return false;
         }
