@@ -1,0 +1,51 @@
+/** Counts the answers that are not the ones due. */
+final class Check {
+    private int wrong = 0;
+
+    void same(String call, long got, long due) {
+        if (got != due) {
+            tell(call + " answered " + got + ", due is " + due);
+        }
+    }
+
+    void yes(String call, boolean got) {
+        same(call, got ? 1 : 0, 1);
+    }
+
+    void no(String call, boolean got) {
+        same(call, got ? 1 : 0, 0);
+    }
+
+    void outOfBounds(String call, Runnable run) {
+        refuses(call, IndexOutOfBoundsException.class, run);
+    }
+
+    void illegal(String call, Runnable run) {
+        refuses(call, IllegalArgumentException.class, run);
+    }
+
+    /** The very class is due: what the machine throws by itself is one below it. */
+    private void refuses(String call, Class<? extends RuntimeException> due, Runnable run) {
+        try {
+            run.run();
+        } catch (RuntimeException thrown) {
+            if (thrown.getClass() != due) {
+                tell(call + " threw " + thrown + ", due is " + due.getName());
+            }
+            return;
+        }
+        tell(call + " threw nothing, due is " + due.getName());
+    }
+
+    void tell(String fault) {
+        wrong++;
+        System.out.println(fault);
+    }
+
+    void end() {
+        if (wrong > 0) {
+            System.out.println(wrong + " wrong");
+            System.exit(1);
+        }
+    }
+}

@@ -1,0 +1,69 @@
+import java.math.BigInteger;
+
+/** Promise 4: a LIST likewise, up to 8. */
+public final class P04ListTest {
+    private static final Key ROOT = Key.small(1);
+    private static final Check CHECK = new Check();
+
+    public static void main(String[] args) {
+        numbersAndBounds();
+        stands("nothing revoked", plain());
+        stands("two entries", plain().revoking(1, 2));
+        stands("the same serial twice", plain().revoking(1, 1));
+        Node number = Node.integer(BigInteger.ONE.shiftLeft(159).subtract(BigInteger.ONE));
+        stands("all extensions", plain().with(Maker.extension(20, true, number), Maker.issuerKey(7),
+            Maker.extension(17, false, Node.raw()), Maker.extension(21, true, Node.raw(5))));
+        stands("number 0", plain().with(Maker.extension(20, false, Node.integer(0))));
+        for (int reason : new int[] {0, 1, 6, 8, 10}) {
+            Maker maker = plain();
+            maker.entries.add(Maker.entry(9, Maker.extension(21, true, Node.octets(0x0A, reason)),
+                Maker.extension(20, false, Node.raw())));
+            stands("reason " + reason, maker);
+        }
+        Maker maker = plain();
+        maker.entries.add(Maker.entry(9, Maker.extension("1.2.3", true, Node.raw(1))));
+        maker.entries.add(Maker.entry(10, Maker.extension("1.2.3", true, Node.raw(1))));
+        stands("the same kind in two entries", maker);
+        CHECK.end();
+    }
+
+    private static Maker plain() {
+        return new Maker("root", ROOT);
+    }
+
+    private static void stands(String what, Maker maker) {
+        Store store = new Store();
+        try {
+            CHECK.same(what, store.list(maker), 0);
+            CHECK.same("wrong() of " + what, store.x.wrong(), -1);
+        } catch (IllegalArgumentException refused) {
+            CHECK.tell(what + " was WRONG at " + store.x.wrong());
+        }
+    }
+
+    private static void numbersAndBounds() {
+        Store store = new Store();
+        TrustChain x = store.x;
+        byte[] text = plain().list();
+        CHECK.illegal("list(0)", () -> x.list(0));
+        CHECK.same("wrong()", x.wrong(), 0);
+        for (int n = 0; n < 8; n++) {
+            CHECK.same("number", store.list(text), n);
+        }
+        int fed = store.feed(text);
+        CHECK.outOfBounds("list(-1)", () -> x.list(-1));
+        CHECK.outOfBounds("a 9th", () -> x.list(text.length));
+        CHECK.outOfBounds("a 9th that is WRONG", () -> x.list(1));
+        CHECK.same("count(1)", x.count(1), 8);
+        CHECK.same("count(0)", x.count(0), 0);
+        CHECK.same("count(4)", x.count(4), fed);
+        CHECK.illegal("a list is no certificate", () -> x.certificate(text.length, false));
+        Store other = new Store();
+        other.feed(text);
+        CHECK.outOfBounds("list above what was fed", () -> other.x.list(fed + 1));
+        CHECK.outOfBounds("list(2049)", () -> other.x.list(2049));
+        CHECK.same("count(4) still", other.x.count(4), fed);
+        CHECK.same("then it stands", other.x.list(text.length), 0);
+        CHECK.same("count(4) behind it", other.x.count(4), 0);
+    }
+}
