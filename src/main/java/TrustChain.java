@@ -224,7 +224,7 @@ public final class TrustChain {
         return n >= 0 && n <= LONGEST_TEXT && n <= fedSize;
     }
 
-    /** The text is copied, since what is stored points into it for good while the row of the fed octets is used again. */
+    /** A copy, since what is stored points into its text for good while the row of the fed octets is used again. */
     private byte[] takeText(int n) {
         fedSize = 0;
         return Arrays.copyOf(fed, n < 0 ? 0 : n);
@@ -318,10 +318,10 @@ public final class TrustChain {
             return NONE;
         }
 
-        /** As a number in two's complement; what is longer than eight octets is told as the lowest one. */
+        /** As a number in two's complement; one of more than eight octets is told as -1, which is allowed nowhere. */
         long number() {
             if (length() > 8) {
-                return Long.MIN_VALUE;
+                return NONE;
             }
             long value = at(0) >= 128 ? -1 : 0;
             for (int i = 0; i < length(); i++) {
@@ -381,7 +381,7 @@ public final class TrustChain {
     /** What is SIGNED. A LIST is just this; a CERTIFICATE has no entries, and more of its own. */
     private static class Paper {
         final int[] hash = new int[HASH_WORDS];
-        final byte[] signers = new byte[MOST_CERTIFICATES];
+        final int[] signers = new int[MOST_CERTIFICATES];
         final ArrayList<Slice> entries = new ArrayList<>();
         Slice body;
         Slice signature;
@@ -510,12 +510,19 @@ public final class TrustChain {
         static final int SEQ = 0x30;
         static final int SET = 0x31;
         static final int A0 = 0xA0;
+        static final int OWN_KEY = 14;
+        static final int USAGE = 15;
+        static final int NAMES = 17;
+        static final int BASIC = 19;
+        static final int LIST_NUMBER = 20;
+        static final int REASON = 21;
+        static final int CONSTRAINTS = 30;
+        static final int ISSUER_KEY = 35;
         static final int LONGEST_SERIAL = 20;
         static final int SHA_WITH_RSA = 11;
         private static final int[] PKCS1 = {0x2A, 0x86, 0x48, 0x86, 0xF7, 0x0D, 0x01, 0x01};
         private static final int[] MONTH_STARTS = {0, 31, 59, 90, 120, 151, 181, 212, 243, 273, 304, 334, 365};
         private static final String PRINTABLE_SIGNS = " '()+,-./:=?";
-        private static final int ISSUER_KEY = 35;
         private static final int DAYS_TO_1970 = 719527;
 
         final byte[] text;
@@ -860,6 +867,7 @@ public final class TrustChain {
         private static final int RSA = 1;
         private static final int FEWEST_BITS = 496;
         private static final int MOST_BITS = 2048;
+        private static final int HIGHEST_EXPONENT = 0x7FFFFFFF;
 
         final Certificate result;
 
@@ -914,7 +922,7 @@ public final class TrustChain {
             int keyEnd = open(SEQ, bitsEnd);
             readModulus(keyEnd);
             long exponent = number(INTEGER, keyEnd).number();
-            require(exponent >= 3 && exponent <= Integer.MAX_VALUE && (exponent & 1) == 1);
+            require(exponent >= 3 && exponent <= HIGHEST_EXPONENT && (exponent & 1) == 1);
             result.exponent = (int) exponent;
             finish(keyEnd);
             finish(bitsEnd);
@@ -937,22 +945,21 @@ public final class TrustChain {
             result.modulusBits = bits;
         }
 
-        @Override
         boolean readKnown(int kind, int end) {
             switch (kind) {
-                case 14:
+                case OWN_KEY:
                     result.ownKey = plain(OCTETS, 1, end);
                     return true;
-                case 15:
+                case USAGE:
                     readUsage(end);
                     return true;
-                case 17:
+                case NAMES:
                     readNames(end);
                     return true;
-                case 19:
+                case BASIC:
                     readBasic(end);
                     return true;
-                case 30:
+                case CONSTRAINTS:
                     int ends = open(SEQ, end);
                     boolean permits = nextIs(A0, ends);
                     if (permits) {
@@ -963,7 +970,7 @@ public final class TrustChain {
                     }
                     finish(ends);
                     return true;
-                case 35:
+                case ISSUER_KEY:
                     result.issuerKey = issuerKey(end);
                     return true;
                 default:
@@ -1100,19 +1107,18 @@ public final class TrustChain {
             result.last = time(end);
         }
 
-        @Override
         boolean readKnown(int kind, int end) {
-            if (inEntry && kind == 21) {
+            if (inEntry && kind == REASON) {
                 long reason = number(ENUMERATED, end).number();
                 require(reason >= 0 && reason <= HIGHEST_REASON && reason != NO_REASON);
                 return true;
             }
-            if (!inEntry && kind == 20) {
+            if (!inEntry && kind == LIST_NUMBER) {
                 Slice digits = number(INTEGER, end);
                 require(digits.at(0) < 128 && digits.length() <= LONGEST_SERIAL);
                 return true;
             }
-            if (!inEntry && kind == 35) {
+            if (!inEntry && kind == ISSUER_KEY) {
                 issuerKey(end);
                 return true;
             }
@@ -1221,8 +1227,8 @@ public final class TrustChain {
     private static final class Rsa {
         private static final int MOST_LIMBS = 64;
         private static final long LOW = 0xFFFFFFFFL;
-        private static final byte YES = 1;
-        private static final byte NO = 2;
+        private static final int YES = 1;
+        private static final int NO = 2;
         private static final int HASH_OCTETS = 32;
         private static final int[] PREFIX = {
             0x30, 0x31, 0x30, 0x0D, 0x06, 0x09, 0x60, 0x86, 0x48, 0x01, 0x65, 0x03, 0x04, 0x02, 0x01, 0x05, 0x00,
@@ -1402,9 +1408,11 @@ public final class TrustChain {
         private final int[] next = new int[DEEPEST];
         private int depth = 0;
         private int puts = 0;
+        private int onPath = 0;
 
         boolean begin(ArrayList<Certificate> stored, Certificate target, int deepest) {
             path.clear();
+            onPath = 0;
             depth = Math.min(deepest, DEEPEST);
             puts = 0;
             put(target);
@@ -1414,9 +1422,9 @@ public final class TrustChain {
         /** Every step puts one on the way or takes one off, so twice as many steps as puts are enough. */
         boolean advance(ArrayList<Certificate> stored) {
             for (int step = 0; step < 2 * MOST_PUT && !path.isEmpty(); step++) {
-                int candidate = nextCandidate(stored);
+                int candidate = nextCandidate(stored.size());
                 if (candidate < 0 || candidate >= stored.size()) {
-                    path.remove(path.size() - 1);
+                    takeOff();
                 } else {
                     put(stored.get(candidate));
                     if (stored.get(candidate).trusted) {
@@ -1431,31 +1439,30 @@ public final class TrustChain {
             if (path.size() < next.length) {
                 next[path.size()] = 0;
                 path.add(one);
+                onPath |= 1 << one.number;
                 puts++;
             }
         }
 
-        private int nextCandidate(ArrayList<Certificate> stored) {
+        private void takeOff() {
+            if (!path.isEmpty()) {
+                onPath &= ~(1 << path.remove(path.size() - 1).number);
+            }
+        }
+
+        private int nextCandidate(int stored) {
             int at = path.size() - 1;
             if (at < 0 || at >= next.length || puts >= MOST_PUT || path.size() >= depth || path.get(at).trusted) {
                 return NONE;
             }
-            for (int n = next[at]; n < stored.size(); n++) {
-                if ((path.get(at).issuers >> n & 1) == 1 && !isOnPath(n)) {
+            int candidates = path.get(at).issuers & ~onPath;
+            for (int n = next[at]; n < stored; n++) {
+                if ((candidates >> n & 1) == 1) {
                     next[at] = n + 1;
                     return n;
                 }
             }
             return NONE;
-        }
-
-        private boolean isOnPath(int number) {
-            for (int i = 0; i < path.size(); i++) {
-                if (path.get(i).number == number) {
-                    return true;
-                }
-            }
-            return false;
         }
     }
 
