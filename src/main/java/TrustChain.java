@@ -729,6 +729,16 @@ public final class TrustChain {
             finish(ends);
         }
 
+        /** What stands behind the TBS (TBL), to the end of the text. */
+        void readSignature(Paper paper, int end) {
+            algorithm(SHA_WITH_RSA, end);
+            int bitsEnd = openBits(end);
+            paper.signature = new Slice(text, place, bitsEnd);
+            leave(bitsEnd, true);
+            finish(end);
+            finish(text.length);
+        }
+
         Slice issuerKey(int end) {
             int ends = open(SEQ, end);
             Slice read = plain(0x80, 1, ends);
@@ -891,12 +901,7 @@ public final class TrustChain {
             result.body = new Slice(text, from, bodyEnd);
             result.extensions = extensions;
             result.matters = matters;
-            algorithm(SHA_WITH_RSA, ends);
-            int bitsEnd = openBits(ends);
-            result.signature = new Slice(text, place, bitsEnd);
-            leave(bitsEnd, true);
-            finish(ends);
-            finish(text.length);
+            readSignature(result, ends);
         }
 
         private void readHead(int end) {
@@ -980,13 +985,14 @@ public final class TrustChain {
 
         private void readBasic(int end) {
             int ends = open(SEQ, end);
-            if (nextIs(BOOLEAN, ends)) {
+            boolean ca = nextIs(BOOLEAN, ends);
+            if (ca) {
                 flag(ends);
-                result.ca = true;
             }
+            result.ca = ca;
             if (nextIs(INTEGER, ends)) {
                 long length = number(INTEGER, ends).number();
-                require(result.ca && length >= 0 && length <= 255);
+                require(ca && length >= 0 && length <= 255);
                 result.pathLength = (int) length;
             }
             finish(ends);
@@ -1091,12 +1097,7 @@ public final class TrustChain {
             finish(bodyEnd);
             result.body = new Slice(text, from, bodyEnd);
             result.matters = matters;
-            algorithm(SHA_WITH_RSA, ends);
-            int bitsEnd = openBits(ends);
-            result.signature = new Slice(text, place, bitsEnd);
-            leave(bitsEnd, true);
-            finish(ends);
-            finish(text.length);
+            readSignature(result, ends);
         }
 
         private void readHead(int end) {

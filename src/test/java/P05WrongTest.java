@@ -320,6 +320,9 @@ public final class P05WrongTest {
         at("CA is 0", zero, changed(m -> m.with(Maker.extension(19, true, Node.seq(zero)))));
         Node alone = Node.integer(0);
         at("LENGTH without CA", alone, changed(m -> m.with(Maker.extension(19, true, Node.seq(alone)))));
+        Node later = Node.integer(0);
+        at("LENGTH without CA in a second BASIC", later,
+            changed(m -> m.with(Maker.ca(1), Maker.extension(19, true, Node.seq(later)))));
         for (Node length : new Node[] {Node.integer(-1), Node.integer(256), Node.octets(0x02), Node.octets(0x02, 0, 1),
             Node.integer(BigInteger.ONE.shiftLeft(64))}) {
             at("LENGTH", length, changed(m -> m.with(Maker.extension(19, true, Node.seq(Node.bool(255), length)))));
@@ -334,9 +337,9 @@ public final class P05WrongTest {
             Node usage = Node.octets(0x03, octets);
             at("USAGE", usage, changed(m -> m.with(Maker.extension(15, true, usage))));
         }
-        Node later = Node.nul();
-        Node octets = Node.octetString(Node.octets(0x03, 7, 128), later);
-        at("behind USAGE", later, changed(m -> m.with(Node.seq(Node.oid("2.5.29.15"), octets))));
+        Node tail = Node.nul();
+        Node octets = Node.octetString(Node.octets(0x03, 7, 128), tail);
+        at("behind USAGE", tail, changed(m -> m.with(Node.seq(Node.oid("2.5.29.15"), octets))));
         Node own = Node.octets(0x04);
         at("an empty OWN KEY", own, changed(m -> m.with(Maker.extension(14, false, own))));
         Node key = Node.octets(0x80);
