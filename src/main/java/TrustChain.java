@@ -726,7 +726,6 @@ public final class TrustChain {
                 kinds.add(kind);
                 extensions++;
             }
-            finish(ends);
         }
 
         /** What stands behind the TBS (TBL), to the end of the text. */

@@ -24,12 +24,19 @@ final class Check {
         refuses(call, IllegalArgumentException.class, run);
     }
 
-    /** The very class is due: what the machine throws by itself is one below it. */
+    /** Whether it was thrown by a throw of the class itself, and not by the machine or the library below it. */
+    static boolean isOwn(RuntimeException thrown) {
+        Class<?> kind = thrown.getClass();
+        boolean named = kind == IndexOutOfBoundsException.class || kind == IllegalArgumentException.class;
+        StackTraceElement[] calls = thrown.getStackTrace();
+        return named && calls.length > 0 && calls[0].getClassName().equals("TrustChain");
+    }
+
     private void refuses(String call, Class<? extends RuntimeException> due, Runnable run) {
         try {
             run.run();
         } catch (RuntimeException thrown) {
-            if (thrown.getClass() != due) {
+            if (thrown.getClass() != due || !isOwn(thrown)) {
                 tell(call + " threw " + thrown + ", due is " + due.getName());
             }
             return;

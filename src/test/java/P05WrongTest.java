@@ -18,6 +18,7 @@ public final class P05WrongTest {
         basicAndUsage();
         names();
         lists();
+        whatLooksLikeTheNext();
         CHECK.end();
     }
 
@@ -97,6 +98,10 @@ public final class P05WrongTest {
             Node bad = Node.odd(header, Node.raw(1));
             at("a length of another form", bad, changed(m -> m.serial = bad));
         }
+        for (int length = 0x80; length < 0x100; length += length == 0x80 ? 3 : 1) {
+            Node bad = Node.odd(new int[] {0x04, length}, Node.raw(new int[length]));
+            at("a length of one octet above 127", bad, changed(m -> m.with(Node.seq(Node.oid("1.2.3"), bad))));
+        }
         Node beyond = Node.odd(new int[] {0x02, 2}, Node.raw(2));
         at("beyond the one around it", beyond, changed(m -> m.version = Node.of(0xA0, beyond)));
         Node cut = Node.raw(0x02);
@@ -130,7 +135,7 @@ public final class P05WrongTest {
         Node bare = Node.integer(2);
         at("no A0", bare, changed(m -> m.version = bare));
         for (Node bad : new Node[] {Node.integer(0), Node.integer(-1), Node.octets(0x02), Node.octets(0x02, 0, 1),
-            Node.octets(0x02, 0xFF, 0x80), Node.integer(BigInteger.ONE.shiftLeft(159)),
+            Node.octets(0x02, 0xFF, 0x80), Node.integer(BigInteger.ONE.shiftLeft(159)), Node.integer(-128),
             Node.integer(BigInteger.ONE.shiftLeft(170)), Node.integer(-129), Node.bool(255)}) {
             at("serial", bad, changed(m -> m.serial = bad));
         }
@@ -141,6 +146,11 @@ public final class P05WrongTest {
             Node.octets(0x04, 0), Node.octets(0x03, 255)}) {
             at("signature", bad, changed(m -> m.signature = bad));
         }
+        Node hollow = Node.octets(0x03);
+        at("an empty BIT STRING before a 0", hollow, changed(m -> {
+            m.signature = hollow;
+            m.behind.add(Node.raw(0, 0));
+        }));
         Maker short1 = leaf();
         short1.signature = Node.raw();
         byte[] text = short1.certificate();
@@ -156,6 +166,12 @@ public final class P05WrongTest {
         at("a longer ALG", longer, changed(m -> m.outerAlg = Node.seq(longer, Node.nul())));
         Node shorter = Node.oid("1.2.840.113549.1.1");
         at("a shorter ALG", shorter, changed(m -> m.outerAlg = Node.seq(shorter, Node.nul())));
+        for (int i = 0; i < 9; i++) {
+            int[] octets = {0x2A, 0x86, 0x48, 0x86, 0xF7, 0x0D, 0x01, 0x01, 0x0B};
+            octets[i]++;
+            Node near = Node.octets(0x06, octets);
+            at("an ALG with one octet changed", near, changed(m -> m.innerAlg = Node.seq(near, Node.nul())));
+        }
         Node full = Node.octets(0x05, 0);
         at("NULL with an octet", full, changed(m -> m.innerAlg = Node.seq(Node.oid("1.2.840.113549.1.1.11"), full)));
         Node noNull = Node.seq(Node.oid("1.2.840.113549.1.1.11"));
@@ -177,7 +193,8 @@ public final class P05WrongTest {
             Node.octets(0x0C, 0xE0, 0x9F, 0xBF), Node.octets(0x0C, 0xED, 0xA0, 0x80), Node.octets(0x0C, 0xED, 0xBF, 0xBF),
             Node.octets(0x0C, 0xF0, 0x8F, 0xBF, 0xBF), Node.octets(0x0C, 0xF4, 0x90, 0x80, 0x80),
             Node.octets(0x0C, 0xF8, 0x88, 0x80, 0x80, 0x80), Node.octets(0x0C, 0xE1, 0x80), Node.octets(0x0C, 0xFF),
-            Node.octets(0x0C, 0xE1, 0x80, 0xC0), Node.octets(0x14, 'a'), Node.octets(0x1E, 0, 'a'), Node.octets(0x04, 'a')
+            Node.octets(0x0C, 0x82, 0x80), Node.octets(0x0C, 0xBF, 0xBF), Node.octets(0x0C, 0xF9, 0x90, 0x80, 0x80),
+            Node.octets(0x0C, 0xFC, 0x90, 0x80, 0x80), Node.octets(0x0C, 0xE1, 0x80, 0xC0), Node.octets(0x14, 'a'), Node.octets(0x1E, 0, 'a'), Node.octets(0x04, 'a')
         };
         for (Node one : bad) {
             at("a string", one, changed(m -> m.subject = Node.seq(Maker.part("2.5.4.3", one))));
@@ -243,7 +260,8 @@ public final class P05WrongTest {
     private static void keys() {
         BigInteger one = BigInteger.ONE;
         for (Node n : new Node[] {Node.integer(one.shiftLeft(494).setBit(0)), Node.integer(one.shiftLeft(2048).setBit(0)),
-            Node.integer(LEAF.n.subtract(one)), Node.integer(LEAF.n.negate()), Node.integer(0), Node.octets(0x02),
+            Node.integer(one.shiftLeft(511).negate().setBit(0)), Node.integer(LEAF.n.subtract(one)),
+            Node.integer(LEAF.n.negate()), Node.integer(0), Node.octets(0x02),
             Node.octets(0x02, 0, 0, 1), Node.bool(255)}) {
             at("n", n, changed(m -> m.publicKey = publicKey(n, Node.integer(3))));
         }
@@ -323,7 +341,7 @@ public final class P05WrongTest {
         Node later = Node.integer(0);
         at("LENGTH without CA in a second BASIC", later,
             changed(m -> m.with(Maker.ca(1), Maker.extension(19, true, Node.seq(later)))));
-        for (Node length : new Node[] {Node.integer(-1), Node.integer(256), Node.octets(0x02), Node.octets(0x02, 0, 1),
+        for (Node length : new Node[] {Node.integer(-1), Node.integer(-128), Node.integer(-127), Node.integer(256), Node.octets(0x02), Node.octets(0x02, 0, 1),
             Node.integer(BigInteger.ONE.shiftLeft(64))}) {
             at("LENGTH", length, changed(m -> m.with(Maker.extension(19, true, Node.seq(Node.bool(255), length)))));
         }
@@ -393,6 +411,41 @@ public final class P05WrongTest {
             Maker.trees(0xA1, Maker.dns("a")), third))));
     }
 
+    /** What is too much in an element, and would fit as what follows that element. */
+    private static void whatLooksLikeTheNext() {
+        Node name = Maker.name("a");
+        at("a NAME in ALG", name,
+            changed(m -> m.innerAlg = Node.seq(Node.oid("1.2.840.113549.1.1.11"), Node.nul(), name)));
+        Node subject = Maker.name("a");
+        at("a NAME behind the TIMES", subject, changed(m -> m.times = Node.seq(m.first, m.last, subject)));
+        Node serial = Node.integer(1);
+        at("a SERIAL in A0", serial, changed(m -> m.version = Node.of(0xA0, Node.integer(2), serial)));
+        Node set = Maker.part("2.5.4.3", Node.text(0x13, "b"));
+        Node pair = Node.seq(Node.oid("2.5.4.3"), Node.text(0x13, "a"));
+        at("a SET in a SET", set, changed(m -> m.subject = Node.seq(Node.set(pair, set))));
+        Node alg = Maker.alg(11);
+        at("ALG in TBS", alg, changed(m -> m.more.add(alg)));
+        Node later = Node.of(0xA3, Node.seq(Maker.ca()));
+        at("A3 in the key", later,
+            changed(m -> m.publicKey = Node.seq(Maker.alg(1), Node.bits(0, LEAF.node()), later)));
+        Node dns = Maker.dns("a");
+        at("a DNS name in A4", dns, changed(m -> m.with(Maker.names(Node.of(0xA4, Maker.name("a"), dns)))));
+        Node tree = Node.seq(Maker.dns("a"));
+        at("a tree in a tree", tree,
+            changed(m -> m.with(Maker.constraints(Node.of(0xA0, Node.seq(Maker.dns("b"), tree))))));
+        Node excluded = Maker.trees(0xA1, Maker.dns("a"));
+        at("A1 in A0", excluded,
+            changed(m -> m.with(Maker.constraints(Node.of(0xA0, Node.seq(Maker.dns("b")), excluded)))));
+        Node extension = Maker.ca();
+        at("an EXTENSION in one", extension,
+            changed(m -> m.with(Node.seq(Node.oid("1.2.3"), Node.octetString(), extension))));
+        Node entry = Maker.entry(2);
+        listAt("an ENTRY in one", entry, changedList(m -> m.entries.add(Node.seq(Node.integer(1),
+            Node.utc("200101000000Z"), Node.seq(Maker.extension("1.2.3", false, Node.raw())), entry))));
+        Node behindEntries = Maker.alg(11);
+        listAt("ALG in TBL", behindEntries, changedList(m -> m.revoking(1).more.add(behindEntries)));
+    }
+
     private static void lists() {
         for (Node version : new Node[] {Node.integer(0), Node.integer(2), Node.octets(0x02, 0, 1), Node.octets(0x02),
             Node.of(0xA0, Node.integer(1))}) {
@@ -428,7 +481,7 @@ public final class P05WrongTest {
         Node again = Maker.extension("1.2.3", false, Node.raw());
         listAt("an OID twice in an ENTRY", again,
             changedList(m -> m.entries.add(Maker.entry(1, Maker.extension("1.2.3", false, Node.raw()), again))));
-        for (Node number : new Node[] {Node.integer(-1), Node.integer(BigInteger.ONE.shiftLeft(159)), Node.octets(0x02),
+        for (Node number : new Node[] {Node.integer(-1), Node.integer(-128), Node.integer(BigInteger.ONE.shiftLeft(159)), Node.octets(0x02),
             Node.octets(0x02, 0, 1), Node.octets(0x0A, 1)}) {
             listAt("the number", number, changedList(m -> m.with(Maker.extension(20, false, number))));
         }

@@ -65,8 +65,16 @@ public final class P07PartTest {
             int year = Integer.parseInt(text.substring(0, 2));
             time(Node.utc(text), (year >= 50 ? 1900 : 2000) + year, text.substring(2));
         }
+        for (int month = 1; month <= 12; month++) {
+            String first = (month < 10 ? "0" : "") + month + "01000000Z";
+            time(Node.utc("21" + first), 2021, first);
+            time(Node.utc("20" + first), 2020, first);
+            int days = LocalDateTime.of(2021, month, 1, 0, 0).toLocalDate().lengthOfMonth();
+            String last = (month < 10 ? "0" : "") + month + days + "235959Z";
+            time(Node.utc("21" + last), 2021, last);
+        }
         String[] longTexts = {"20500101000000Z", "99991231235959Z", "24000229000000Z", "21000301000000Z", "20520229010101Z",
-            "30010228000000Z"};
+            "30010228000000Z", "24010101000000Z", "28010101000000Z"};
         for (String text : longTexts) {
             time(Node.general(text), Integer.parseInt(text.substring(0, 4)), text.substring(4));
         }

@@ -368,6 +368,10 @@ public final class P11ValidateTest {
         store.certificate(leaf().with(Maker.issuerKey(1, 2)));
         store.trusted(new Maker("middle", OTHER, "x", OTHER).with(Maker.ownKey(1, 3)));
         store.trusted(new Maker("middle", OTHER, "x", OTHER).with(Maker.ownKey(1, 2, 3)));
+        Store shorter = new Store();
+        shorter.certificate(leaf().with(Maker.issuerKey(1)));
+        shorter.trusted(new Maker("middle", MIDDLE, "x", OTHER).with(Maker.ownKey(2)));
+        CHECK.same("keys of one octet", shorter.x.validate(0, NOON, 4, false), 10);
         CHECK.same("other keys", store.x.validate(0, NOON, 4, false), 10);
         store.trusted(new Maker("middle", OTHER, "x", OTHER).with(Maker.issuerKey(1, 3)));
         CHECK.same("no OWN KEY", store.x.validate(0, NOON, 4, false), 1);
@@ -419,8 +423,15 @@ public final class P11ValidateTest {
         faulty.certificate(bad, true);
         CHECK.same("all late", faulty.x.validate(0, NOON, 16, false), 2);
         CHECK.same("chains among 1,000", faulty.x.count(2), chains);
-        CHECK.same("all late, depth 4", faulty.x.validate(0, NOON, 4, false), 2);
-        CHECK.same("chains among them", faulty.x.count(2), countChains(11, 10, 4));
+        for (int trusted = 1; trusted < 11; trusted++) {
+            faulty.x.trust(trusted == 1 ? 10 : trusted - 1, false);
+            faulty.x.trust(trusted, true);
+            for (int depth = 4; depth <= 16; depth++) {
+                faulty.x.validate(0, NOON, depth, false);
+                CHECK.same("chains to " + trusted + " at depth " + depth, faulty.x.count(2),
+                    countChains(11, trusted, depth));
+            }
+        }
         CHECK.same("all late, depth 3", faulty.x.validate(0, NOON, 3, false), 2);
         CHECK.same("chains of three at most", faulty.x.count(2), 10);
     }

@@ -9,10 +9,11 @@ public final class P14CoversTest {
         String long32 = "abcdefghijklmnopqrstuvwxyz.longx";
         store.certificate(new Maker("a", ROOT, "root", ROOT).with(Maker.names(
             Maker.dns("www.Example.com"), Maker.dns("*.wild.ORG"), Maker.dns("*."), Maker.dns("x*.net"), Maker.dns(long31),
-            Maker.dns(long32), Node.text(0x81, "mail.example"), Maker.dns("*"), Maker.dns("*.longx"), Maker.dns("@["))));
+            Maker.dns(long32), Node.text(0x81, "mail.example"), Maker.dns("*"), Maker.dns("*.longx"), Maker.dns("@["),
+            Maker.dns("az.AZ"))));
         store.certificate(new Maker("www.only.subject", ROOT, "root", ROOT));
         for (String name : new String[] {"www.example.com", "WWW.EXAMPLE.COM", "wWw.eXaMpLe.CoM", "a.wild.org", "*.wild.org",
-            ".wild.org", "A.WILD.ORG", "abc.", ".", "x*.net", long31, "*", "*.", "@["}) {
+            ".wild.org", "A.WILD.ORG", "abc.", ".", "x*.net", long31, "*", "*.", "@[", "AZ.az", "aZ.Az"}) {
             covers(store.x, name, true);
         }
         for (String name : new String[] {"", "example.com", "ww.example.com", "www.example.co", "www.example.comm",
@@ -24,6 +25,7 @@ public final class P14CoversTest {
         CHECK.no("covered by the SUBJECT", covers(store.x, 1, "www.only.subject"));
         CHECK.yes("what stands behind the first 0", covers(store.x, 0, "www.example.com\0xyz"));
         CHECK.no("a 0 in the first place", covers(store.x, 0, "\0www.example.com"));
+        CHECK.no("a 0 before the first dot", covers(store.x, 0, "\0.wild.org"));
         CHECK.no("an octet above 127", covers(store.x, 0, "www.example.com\u00ff"));
         CHECK.outOfBounds("covers(2, ..)", () -> store.x.covers(2, 0, 0, 0, 0));
         CHECK.outOfBounds("covers(-1, ..)", () -> store.x.covers(-1, 0, 0, 0, 0));
