@@ -66,6 +66,9 @@ public final class P03CertificateTest {
                 0xBF, 0xEE, 0x80, 0x80, 0xEF, 0xBF, 0xBF, 0xF0, 0x90, 0x80, 0x80, 0xF4, 0x8F, 0xBF, 0xBF)));
         stands("strings of all kinds", maker);
         maker = leaf();
+        maker.subject = Node.seq(Node.set(Node.seq(Node.octets(0x06, 0x55, 0x81, 0x80, 0x80, 0x01), Node.text(0x13, "a"))));
+        stands("80 within a number of an OID", maker);
+        maker = leaf();
         maker.serial = Node.integer(BigInteger.ONE.shiftLeft(159).subtract(BigInteger.ONE));
         stands("the highest serial", maker);
         maker = leaf();

@@ -236,6 +236,11 @@ public final class P05WrongTest {
             Node later = Node.utc(text);
             at("UTCTIME " + text, later, changed(m -> m.times = Node.seq(Node.utc("300101000000Z"), later)));
         }
+        int[] daysOfMonths = {31, 28, 31, 30, 31, 30, 31, 31, 30, 31, 30, 31};
+        for (int month = 1; month <= 12; month++) {
+            Node bad = Node.utc("21" + (month < 10 ? "0" : "") + month + (daysOfMonths[month - 1] + 1) + "000000Z");
+            at("a day behind month " + month, bad, changed(m -> m.times = Node.seq(bad, Node.utc("300101000000Z"))));
+        }
         String[] longOnes = {
             "20491231235959Z", "20200101000000Z", "21000229000000Z", "20501301000000Z", "20500101000000", "500101000000Z",
             "20500101000000.0Z", "20500101240000Z", "2050010100000Z", "205001010000000Z", "20500100000000Z"
