@@ -22,7 +22,8 @@ final class Maker {
     Node body;
     Node root;
     final List<Node> behind = new ArrayList<>();
-    private Key signer;
+    final boolean isList;
+    private final Key signer;
 
     static Node alg(int last) {
         return Node.seq(Node.oid("1.2.840.113549.1.1." + last), Node.nul());
@@ -105,6 +106,7 @@ final class Maker {
         this.subject = name(subject);
         this.issuer = name(issuer);
         this.signer = signer;
+        this.isList = false;
         this.publicKey = Node.seq(alg(1), Node.bits(0, own.node()));
         this.times = Node.seq(first, last);
     }
@@ -113,6 +115,7 @@ final class Maker {
     Maker(String issuer, Key signer) {
         this.issuer = name(issuer);
         this.signer = signer;
+        this.isList = true;
         this.version = Node.integer(1);
     }
 
@@ -138,6 +141,10 @@ final class Maker {
         last = Node.utc(lastTime);
         times = Node.seq(first, last);
         return this;
+    }
+
+    byte[] text() {
+        return isList ? list() : certificate();
     }
 
     byte[] certificate() {

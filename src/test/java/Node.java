@@ -11,6 +11,7 @@ final class Node {
     private final byte[] front;
     final List<Node> kids = new ArrayList<>();
     private byte[] header;
+    private int stretch = 0;
     int place;
     int end;
 
@@ -117,6 +118,12 @@ final class Node {
         return result;
     }
 
+    /** Tells a length that is so many octets above (below) the true one. */
+    Node stretched(int by) {
+        stretch = by;
+        return this;
+    }
+
     byte[] write() {
         locate(0);
         ByteArrayOutputStream out = new ByteArrayOutputStream();
@@ -136,7 +143,7 @@ final class Node {
         if (header != null) {
             return header;
         }
-        int size = contentSize();
+        int size = contentSize() + stretch;
         if (size < 128) {
             return bytes(new int[] {tag, size});
         }
