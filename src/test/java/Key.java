@@ -2,10 +2,14 @@ import java.io.ByteArrayOutputStream;
 import java.math.BigInteger;
 import java.security.MessageDigest;
 import java.security.NoSuchAlgorithmException;
+import java.util.HashMap;
+import java.util.Map;
 import java.util.Random;
 
 /** An RSA key, the same one for the same size, exponent and seed. */
 final class Key {
+    private static final Map<Integer, Key> SMALL = new HashMap<>();
+
     final BigInteger n;
     final BigInteger e;
     private final BigInteger d;
@@ -26,7 +30,7 @@ final class Key {
     }
 
     static Key small(int seed) {
-        return new Key(512, 65537, seed);
+        return SMALL.computeIfAbsent(seed, some -> new Key(512, 65537, some));
     }
 
     int size() {
