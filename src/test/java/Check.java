@@ -16,6 +16,12 @@ final class Check {
         same(call, got ? 1 : 0, 0);
     }
 
+    void sameText(String what, String got, String due) {
+        if (!got.equals(due)) {
+            tell(what + " is\n" + got + "\ndue is\n" + due);
+        }
+    }
+
     void outOfBounds(String call, Runnable run) {
         refuses(call, IndexOutOfBoundsException.class, run);
     }

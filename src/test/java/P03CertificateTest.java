@@ -8,6 +8,9 @@ public final class P03CertificateTest {
 
     public static void main(String[] args) {
         numbersAndBounds();
+        upTo2048Octets();
+        partOfWhatWasFed();
+        upToSixteen();
         whatMayStand();
         sizesOfKeys();
         CHECK.end();
@@ -44,6 +47,72 @@ public final class P03CertificateTest {
         CHECK.same("count(0)", x.count(0), 16);
         CHECK.same("count(4) stays", x.count(4), fed);
         CHECK.same("wrong() stays", x.wrong(), -1);
+    }
+
+    /** A text of so many octets: what is in an extension that is not known fills it up. */
+    private static byte[] ofSize(int size) {
+        int filling = size - 300;
+        while (true) {
+            byte[] text = leaf().with(Maker.extension("1.2.3", false, Node.raw(new int[filling]))).certificate();
+            if (text.length == size) {
+                return text;
+            }
+            filling += text.length < size ? 1 : -1;
+        }
+    }
+
+    private static void upTo2048Octets() {
+        for (int size = 2045; size <= 2048; size++) {
+            Store store = new Store();
+            CHECK.same("a text of octets " + size, store.certificate(ofSize(size), false), 0);
+            CHECK.same("wrong()", store.x.wrong(), -1);
+        }
+        for (int size : new int[] {2049, 2050, 2060}) {
+            Store store = new Store();
+            byte[] text = ofSize(size);
+            store.feed(text);
+            CHECK.outOfBounds("a text of octets " + size, () -> store.x.certificate(size, false));
+            CHECK.same("wrong() of a text that was not looked at", store.x.wrong(), -1);
+            CHECK.same("octets fed", store.x.count(4), 2060);
+            CHECK.illegal("its first 2,048 octets", () -> store.x.certificate(2048, false));
+            CHECK.same("wrong() of those", store.x.wrong(), 0);
+            CHECK.same("stored", store.x.count(0), 0);
+        }
+    }
+
+    /** n may be all of it; what is behind the first n is gone with them. */
+    private static void partOfWhatWasFed() {
+        for (int more = 0; more < 60; more += 20) {
+            Store store = new Store();
+            byte[] text = ofSize(500);
+            CHECK.same("octets fed", store.feed(text), 500);
+            for (int n = 0; n < more; n += 20) {
+                store.x.feed(-1, -1, -1, -1, -1);
+            }
+            int fed = 500 + more;
+            CHECK.outOfBounds("one above what was fed", () -> store.x.certificate(fed + 1, false));
+            CHECK.same("the first 500 of " + fed, store.x.certificate(500, false), 0);
+            CHECK.same("octets fed then", store.x.count(4), 0);
+            CHECK.outOfBounds("one of none", () -> store.x.certificate(1, false));
+            CHECK.same("the next text", store.certificate(text, false), 1);
+        }
+    }
+
+    /** One that is WRONG takes no number and no room. */
+    private static void upToSixteen() {
+        Store store = new Store();
+        byte[] text = Reading.certificate().text();
+        for (int n = 0; n < 16; n++) {
+            CHECK.illegal("WRONG", () -> store.x.certificate(0, true));
+            CHECK.same("number", store.certificate(text, n == 15), n);
+            CHECK.same("count(0)", store.x.count(0), n + 1);
+        }
+        CHECK.outOfBounds("a 17th of no octets", () -> store.x.certificate(0, true));
+        CHECK.same("count(0)", store.x.count(0), 16);
+        CHECK.same("wrong() stays", store.x.wrong(), -1);
+        CHECK.yes("the last is TRUSTED", store.x.trust(15, true));
+        CHECK.no("the one before it is not", store.x.trust(14, true));
+        CHECK.same("a list has room", store.list(Reading.list()), 0);
     }
 
     private static void stands(String what, Maker maker) {

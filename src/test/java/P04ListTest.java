@@ -7,6 +7,8 @@ public final class P04ListTest {
 
     public static void main(String[] args) {
         numbersAndBounds();
+        upTo2048Octets();
+        upToEight();
         stands("nothing revoked", plain());
         stands("two entries", plain().revoking(1, 2));
         stands("the same serial twice", plain().revoking(1, 1));
@@ -39,6 +41,48 @@ public final class P04ListTest {
         } catch (IllegalArgumentException refused) {
             CHECK.tell(what + " was WRONG at " + store.x.wrong());
         }
+    }
+
+    private static byte[] ofSize(int size) {
+        int filling = size - 300;
+        while (true) {
+            byte[] text = plain().with(Maker.extension("1.2.3", false, Node.raw(new int[filling]))).list();
+            if (text.length == size) {
+                return text;
+            }
+            filling += text.length < size ? 1 : -1;
+        }
+    }
+
+    private static void upTo2048Octets() {
+        for (int size = 2045; size <= 2048; size++) {
+            Store store = new Store();
+            CHECK.same("a text of octets " + size, store.list(ofSize(size)), 0);
+        }
+        for (int size : new int[] {2049, 2060}) {
+            Store store = new Store();
+            store.feed(ofSize(size));
+            CHECK.outOfBounds("a text of octets " + size, () -> store.x.list(size));
+            CHECK.same("octets fed", store.x.count(4), 2060);
+            CHECK.same("wrong()", store.x.wrong(), -1);
+            CHECK.illegal("its first 2,048 octets", () -> store.x.list(2048));
+            CHECK.same("stored", store.x.count(1), 0);
+        }
+    }
+
+    /** One that is WRONG takes no number and no room; sixteen certificates leave room for lists. */
+    private static void upToEight() {
+        Store store = new Store();
+        byte[] text = Reading.list().text();
+        for (int n = 0; n < 8; n++) {
+            CHECK.illegal("WRONG", () -> store.x.list(0));
+            CHECK.same("number", store.list(text), n);
+            CHECK.same("count(1)", store.x.count(1), n + 1);
+        }
+        CHECK.outOfBounds("a 9th of no octets", () -> store.x.list(0));
+        CHECK.same("count(1)", store.x.count(1), 8);
+        CHECK.same("wrong() stays", store.x.wrong(), -1);
+        CHECK.same("a certificate has room", store.certificate(Reading.certificate()), 0);
     }
 
     private static void numbersAndBounds() {

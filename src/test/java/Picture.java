@@ -4,7 +4,16 @@ final class Picture {
     }
 
     static String of(TrustChain x) {
-        StringBuilder out = new StringBuilder(brief(x));
+        return brief(x) + stored(x);
+    }
+
+    /** Without the two that a text changes, be it WRONG or not: wrong() and the octets that are fed. */
+    static String butText(TrustChain x) {
+        return verdict(x) + stored(x);
+    }
+
+    private static String stored(TrustChain x) {
+        StringBuilder out = new StringBuilder();
         for (int c = 0; c < x.count(0); c++) {
             out.append("\ncertificate ").append(c).append(trusted(x, c) ? " trusted:" : ":");
             for (int what = 0; what < 12; what++) {
@@ -31,21 +40,26 @@ final class Picture {
 
     /** Of a store with many in it: the counts, wrong(), the CHAIN, and a word of each digest. */
     static String brief(TrustChain x) {
+        StringBuilder out = new StringBuilder(verdict(x));
+        out.append(" wrong: ").append(x.wrong()).append(" fed: ").append(x.count(4)).append(" digests:");
+        for (int c = 0; c < x.count(0); c++) {
+            out.append(' ').append(x.digest(c, 0));
+        }
+        return out.toString();
+    }
+
+    private static String verdict(TrustChain x) {
         StringBuilder out = new StringBuilder("counts:");
-        for (int what = 0; what < 5; what++) {
+        for (int what = 0; what < 4; what++) {
             out.append(' ').append(x.count(what));
         }
-        out.append(" wrong: ").append(x.wrong()).append(" chain:");
+        out.append(" chain:");
         for (int k = 0; k < 17; k++) {
             try {
                 out.append(' ').append(x.chain(k));
             } catch (IndexOutOfBoundsException none) {
-                out.append('.');
-                break;
+                return out.append('.').toString();
             }
-        }
-        for (int c = 0; c < x.count(0); c++) {
-            out.append(' ').append(x.digest(c, 0));
         }
         return out.toString();
     }
