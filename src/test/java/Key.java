@@ -29,6 +29,13 @@ final class Key {
         d = e.modInverse(turn);
     }
 
+    /** n needs not be made of two primes: of one alone the power that turns e back is known as well. */
+    Key(BigInteger prime, long exponent) {
+        n = prime;
+        e = BigInteger.valueOf(exponent);
+        d = e.modInverse(prime.subtract(BigInteger.ONE));
+    }
+
     static Key small(int seed) {
         return SMALL.computeIfAbsent(seed, some -> new Key(512, 65537, some));
     }

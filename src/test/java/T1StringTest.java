@@ -121,8 +121,11 @@ public final class T1StringTest {
             either("code point " + point, point <= 0x10FFFF, UTF8, form(point, 4));
         }
         for (int first = 0xF5; first < 0x100; first++) {
-            either("a first octet of " + first, false, UTF8, first, 0x80, 0x80, 0x80);
-            either("a first octet of " + first + ", more", false, UTF8, first, 0x80, 0x80, 0x80, 0x80, 0x80);
+            for (int second : new int[] {0x80, 0x8F, 0x90, 0xBF}) {
+                either("a first octet of " + first, false, UTF8, first, second, 0x80, 0x80);
+                either("a first octet of " + first + ", one more", false, UTF8, first, second, 0x80, 0x80, 0x80);
+                either("a first octet of " + first + ", two more", false, UTF8, first, second, 0x80, 0x80, 0x80, 0x80);
+            }
         }
     }
 

@@ -12,6 +12,8 @@ public final class T3SignedTest {
         asManyOctetsAsN();
         aSignatureThatBeginsWith0();
         belowN();
+        justBesideN();
+        specialModuli();
         eightFfAtLeast();
         everyOctetOfTheForm();
         otherForms();
@@ -31,8 +33,10 @@ public final class T3SignedTest {
         return maker;
     }
 
-    private static Maker root(Key key) {
-        return unsigned(new Maker("root", key, "root", key));
+    private static Maker root(Node key) {
+        Maker maker = new Maker("root", LEAF, "root", LEAF);
+        maker.publicKey = Node.seq(Maker.alg(1), Node.bits(0, key));
+        return unsigned(maker);
     }
 
     private static byte[] body(Key key, boolean list) {
@@ -52,7 +56,7 @@ public final class T3SignedTest {
             System.arraycopy(signature, 0, octets, 1, signature.length);
             maker.signature = Node.octets(3, octets);
             Store store = new Store();
-            store.certificate(root(key));
+            store.certificate(root(key.node()));
             int number = list ? store.list(maker) : store.certificate(maker);
             CHECK.same((list ? "a LIST: " : "a CERTIFICATE: ") + what, store.x.signed(list, number, 0) ? 1 : 0, due ? 1 : 0);
         }
@@ -92,15 +96,15 @@ public final class T3SignedTest {
             Maker maker = unsigned(new Maker("leaf", LEAF, "root", key).serial(serial));
             byte[] signature = key.sign(maker.body.write());
             if (signature[0] == 0) {
-                CHECK.yes("with its 0", isSigned(maker, key, signature));
-                CHECK.no("without its 0", isSigned(maker, key, Arrays.copyOfRange(signature, 1, signature.length)));
+                CHECK.yes("with its 0", isSigned(maker, key.node(), signature));
+                CHECK.no("without its 0", isSigned(maker, key.node(), Arrays.copyOfRange(signature, 1, signature.length)));
                 return;
             }
         }
         CHECK.tell("no signature begins with 0");
     }
 
-    private static boolean isSigned(Maker maker, Key key, byte[] signature) {
+    private static boolean isSigned(Maker maker, Node key, byte[] signature) {
         maker.signature = Node.octets(3, join(new byte[1], signature));
         Store store = new Store();
         store.certificate(maker);
@@ -123,6 +127,76 @@ public final class T3SignedTest {
         for (BigInteger number : new BigInteger[] {BigInteger.ZERO, ONE, key.n.subtract(ONE), key.n, key.n.add(ONE),
             ONE.shiftLeft(512).subtract(ONE)}) {
             signed("the number " + number, false, key, body -> Key.octets(number, 64));
+        }
+    }
+
+    /** The form is odd here, so n may be made of it: 2 to the power of e, or its opposite, leaves just the form. */
+    private static void justBesideN() {
+        Maker maker = unsigned(new Maker("leaf", LEAF, "root", LEAF));
+        for (int serial = 2; !formOf(maker, 64).testBit(0); serial++) {
+            maker = unsigned(new Maker("leaf", LEAF, "root", LEAF).serial(serial));
+        }
+        for (int size : new int[] {62, 63, 64, 65, 128, 255, 256}) {
+            BigInteger form = formOf(maker, size);
+            BigInteger two = BigInteger.TWO;
+            int bits = 8 * size - 1;
+            BigInteger most = ONE.shiftLeft(bits).add(form);
+            beside("the opposite of 2 leaves the form", maker, most, bits, size, most.subtract(two));
+            // Of 62 octets the next two would have fewer than 496 bits.
+            if (size > 62) {
+                beside("2 leaves the form", maker, ONE.shiftLeft(bits).subtract(form), bits, size, two);
+                BigInteger less = ONE.shiftLeft(bits - 2).add(form);
+                beside("the opposite of 2, with room above n", maker, less, bits - 2, size, less.subtract(two));
+            }
+        }
+    }
+
+    /** Just one of the numbers beside 0 and n is the right one, and n more than that is none. */
+    private static void beside(String what, Maker maker, BigInteger n, int e, int size, BigInteger right) {
+        Node key = Node.seq(Node.integer(n), Node.integer(e));
+        for (int step = -3; step <= 3; step++) {
+            for (BigInteger from : new BigInteger[] {BigInteger.ZERO, n, n.add(n)}) {
+                BigInteger number = from.add(BigInteger.valueOf(step));
+                if (number.signum() >= 0 && number.bitLength() <= 8 * size) {
+                    boolean due = number.equals(right);
+                    CHECK.same(what + ", octets " + size + ", step " + step,
+                        isSigned(maker, key, Key.octets(number, size)) ? 1 : 0, due ? 1 : 0);
+                }
+            }
+        }
+    }
+
+    private static BigInteger formOf(Maker maker, int size) {
+        return new BigInteger(1, Key.form(maker.body.write(), size));
+    }
+
+    /** Rows of 0 and of 1 among the bits of n, where what is carried or lent goes furthest. */
+    private static void specialModuli() {
+        for (int power : new int[] {496, 511, 512, 544, 768}) {
+            special("just above a power of 2", ONE.shiftLeft(power).nextProbablePrime());
+        }
+        for (int power : new int[] {496, 505, 512, 544, 768}) {
+            BigInteger below = ONE.shiftLeft(power).subtract(ONE);
+            while (!below.isProbablePrime(50)) {
+                below = below.subtract(BigInteger.TWO);
+            }
+            special("just below a power of 2", below);
+        }
+        for (int power : new int[] {701, 1709}) {
+            special("01 again and again", ONE.shiftLeft(power).add(ONE).divide(BigInteger.valueOf(3)));
+        }
+        special("a prime of 521 ones", ONE.shiftLeft(521).subtract(ONE));
+    }
+
+    private static void special(String what, BigInteger prime) {
+        for (long exponent : new long[] {3, 5, 7, 65537, (1L << 31) - 1}) {
+            if (prime.subtract(ONE).gcd(BigInteger.valueOf(exponent)).equals(ONE)) {
+                Key key = new Key(prime, exponent);
+                signed("n " + what + ", e = " + exponent, true, key, key::sign);
+                Key other = Key.small(1);
+                signed("n " + what + ", of another", false, key, body -> Key.octets(new BigInteger(1, other.sign(body)),
+                    key.size()));
+            }
         }
     }
 
