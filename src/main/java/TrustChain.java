@@ -522,11 +522,9 @@ public final class TrustChain {
         static final int SHA_WITH_RSA = 11;
         private static final int[] PKCS1 = {0x2A, 0x86, 0x48, 0x86, 0xF7, 0x0D, 0x01, 0x01};
         private static final int[] MONTH_STARTS = {0, 31, 59, 90, 120, 151, 181, 212, 243, 273, 304, 334, 365};
-        private static final String PRINTABLE_SIGNS = " '()+,-./:=?";
         private static final int DAYS_TO_1970 = 719527;
 
         final byte[] text;
-        final Slice nothing;
         int place = 0;
         int start = 0;
         int wrongAt = NONE;
@@ -537,7 +535,6 @@ public final class TrustChain {
 
         Reader(byte[] text) {
             this.text = text;
-            this.nothing = new Slice(text, 0, 0);
         }
 
         /** Reads what is in the OCTETS of an extension 2.5.29.kind; false if that kind is not known here. */
@@ -819,10 +816,12 @@ public final class TrustChain {
             return true;
         }
 
+        /** The digits stand in the row from + to :, with , - . and / in it. */
         private static boolean isPrintable(int octet) {
             boolean letter = octet >= 'A' && octet <= 'Z' || octet >= 'a' && octet <= 'z';
-            boolean digit = octet >= '0' && octet <= '9';
-            return letter || digit || octet >= 0 && PRINTABLE_SIGNS.indexOf((char) octet) >= 0;
+            boolean plusToColon = octet >= '+' && octet <= ':';
+            boolean sign = octet >= '\'' && octet <= ')' || octet == ' ' || octet == '=' || octet == '?';
+            return letter || plusToColon || sign;
         }
 
         private boolean isUtf8(int from, int to) {
@@ -882,7 +881,7 @@ public final class TrustChain {
 
         CertificateReader(byte[] text) {
             super(text);
-            result = new Certificate(nothing);
+            result = new Certificate(new Slice(text, 0, 0));
         }
 
         void readCertificate() {
@@ -1068,7 +1067,7 @@ public final class TrustChain {
 
         ListReader(byte[] text) {
             super(text);
-            result = new Paper(nothing);
+            result = new Paper(new Slice(text, 0, 0));
         }
 
         void readList() {

@@ -7,8 +7,8 @@ import java.util.List;
 
 /** An element of DER that knows, once its root was written, where it stands. */
 final class Node {
-    private final int tag;
-    private final byte[] front;
+    private int tag;
+    private byte[] front;
     final List<Node> kids = new ArrayList<>();
     private byte[] header;
     private int stretch = 0;
@@ -122,6 +122,30 @@ final class Node {
     Node stretched(int by) {
         stretch = by;
         return this;
+    }
+
+    Node retagged(int other) {
+        tag = other;
+        return this;
+    }
+
+    /** The octets before the elements in it; all of a primitive one. */
+    byte[] front() {
+        return front;
+    }
+
+    void refill(byte[] octets) {
+        front = octets;
+    }
+
+    /** This one and all in it. */
+    List<Node> all() {
+        List<Node> all = new ArrayList<>();
+        all.add(this);
+        for (Node kid : kids) {
+            all.addAll(kid.all());
+        }
+        return all;
     }
 
     byte[] write() {
